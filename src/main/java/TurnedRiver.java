@@ -978,12 +978,13 @@ public final class TurnedRiver {
         private void letFlow(Course course, int k) {
             // FALL times WIDTH can pass what an int holds, though what flows in the end cannot.
             long full = (long) (level[k] - level[k + 1]) * width[k];
-            boolean fromSea = course.isSea(k + 1);
+            boolean toSea = course.isSea(k + 1);
             int down = (int) Math.min(Math.max(full, 0L), water[k]);
-            int up = (int) Math.min(Math.max(-full, 0L), fromSea ? Integer.MAX_VALUE : water[k + 1]);
+            long pull = Math.max(-full, 0L);
+            int up = (int) (toSea ? pull : Math.min(pull, water[k + 1]));
             flow[k] = down - up;
             water[k] -= flow[k];
-            if (!fromSea) {
+            if (!toSea) {
                 water[k + 1] += flow[k];
             }
             groundDown[k] = Math.min(MOST_GROUND, groundDown[k] + down);

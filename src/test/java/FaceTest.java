@@ -82,7 +82,7 @@ public final class FaceTest {
         String text = Files.readString(Path.of("src/main/java/TurnedRiver.java"));
         String code = text.replaceAll("(?s)/\\*.*?\\*/", "").replaceAll("//[^\n]*", "").replaceAll("\"[^\"\n]*\"", "\"\"");
         String banned = "\\b(throw|throws|try|catch|finally|synchronized|assert|import|package|volatile|transient|native|var|Exact|"
-            + "hashCode|toString|equals)\\b|->|::|\\w+Exact\\b|[^\\x00-\\x7f]";
+            + "hashCode|toString|equals)\\b|->|::|\\w+Exact\\b|[^\\x00-\\x7f]|\\b(Integer|Long)\\.[A-Z_]+\\b";
         Matcher m = Pattern.compile(banned).matcher(code);
         while (m.find()) {
             Due.holds("not in the language: " + m.group(), false);

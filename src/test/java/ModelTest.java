@@ -32,7 +32,42 @@ public final class ModelTest {
             t.tell(t.spoilt(t.riverText()), true);
             t.tell(t.spoilt(t.planText()), false);
         }
+        for (int run = 0; run < 8; run++) {
+            new ModelTest(1000 + run).flood();
+        }
         Due.end();
+    }
+
+    /** As much water as 500 calls can bring: the sea stands high all day and every gate is wide. */
+    private void flood() {
+        StringBuilder s = new StringBuilder("lake 0 1 0;");
+        for (int k = 0; k < run % 8; k++) {
+            s.append("pond ").append(run % 2 * 7 * k).append(' ').append(1 + k % 2).append(" 0;");
+        }
+        s.append("tide 999").append(",999".repeat(23)).append(";rain 99").append(",99".repeat(23)).append(';');
+        tell(s.toString(), true);
+        for (int k = 0; k < m.told(0) - 1; k++) {
+            due("width", x.width(k, 9), m.width(k, 9));
+        }
+        due("log", x.log(0, 999), m.log(0, 999));
+        for (int i = 0; i < 480; i++) {
+            due("go", x.go(200), m.go(200));
+        }
+        for (int k = 0; k < m.told(0); k++) {
+            for (int what = 0; what <= 4; what++) {
+                due("node " + k + " " + what, x.node(k, what), m.node(k, what));
+                due("gate " + k + " " + what, x.gate(k, what), m.gate(k, what));
+            }
+            due("tried", x.tried(200, 0, k), m.tried(200, 0, k));
+            due("tried", x.tried(199, 1, k), m.tried(199, 1, k));
+            due("drained", x.drained(k, 0, 7), m.drained(k, 0, 7));
+            due("nearest", x.nearest(k, 99999, 7), m.nearest(k, 99999, 7));
+            due("boat", x.boat(k, 0, 999, -1), m.boat(k, 0, 999, -1));
+        }
+        for (int what = 0; what <= 6; what++) {
+            due("told " + what, x.told(what), m.told(what));
+            due("wood " + what, x.wood(0, what), m.wood(0, what));
+        }
     }
 
     private void due(String call, int got, int want) {

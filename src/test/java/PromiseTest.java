@@ -179,6 +179,10 @@ public final class PromiseTest {
         riverFault("99999 lake 0 1 0;", 1, 0);
         riverFault("lakes 0 1 0;", 1, 0);
         riverFault("la ke 0 1 0;", 1, 0);
+        riverFault("lakez 0 1 0;", 1, 0);
+        riverFault("lakea 0 1 0;", 1, 0);
+        riverFault("lake{ 0 1 0;", 1, 4);
+        riverFault("lake` 0 1 0;", 1, 4);
         riverFault("Lake 0 1 0;", 1, 0);
         riverFault("lak", 1, 0);
         riverFault("lake", 1, 4);
@@ -667,6 +671,19 @@ public final class PromiseTest {
         ever.pour(0, 9999);
         Due.is("never", ever.slack(0, 0), NONE);
         Due.is("never, how long", ever.slack(0, 1), NONE);
+        for (int h : new int[] {199, 200}) {
+            TurnedRiver y = Due.of("lake 0 1 9;gate 0 0 1;");
+            Due.plan(y, "at 0 0 1;at 1 0 0;at " + h + " 0 0;");
+            Due.is("shut from hour 1 on", y.slack(0, 0), 1);
+            Due.is("199 of 200", y.slack(0, 1), 199);
+        }
+        TurnedRiver tidal = Due.of("lake 0 99 9999;gate 0 1 1;tide " + "999,".repeat(23) + "999;");
+        Due.holds("the tide goes on for 200 hours", tidal.slack(0, 0) == NONE);
+        Due.plan(tidal, "at 200 0 0;");
+        Due.is("slack behind 200 hours is not seen", tidal.slack(0, 0), NONE);
+        Due.plan(tidal, "at 199 0 0;");
+        Due.is("slack in the last of 200", tidal.slack(0, 0), 199);
+        Due.is("slack in the last of 200, how long", tidal.slack(0, 1), 1);
         Due.refused(x, "slack 1", UNKNOWN, () -> x.slack(1, 5));
         Due.refused(x, "slack -1", UNKNOWN, () -> x.slack(-1, 0));
         Due.refused(x, "slack of 2", OUTSIDE, () -> x.slack(0, 2));
@@ -894,6 +911,11 @@ public final class PromiseTest {
         Due.same("nothing changed", Due.all(x), before);
         x.go(1);
         Due.is("from now on", x.judge(21), 0);
+        x.tear();
+        x.pour(0, 0);
+        x.write(9999);
+        Due.is("9999 off", x.judge(9998), 0);
+        Due.is("9999 off, by no more than 9999", x.judge(9999), NONE);
         TurnedRiver y = Due.of("lake 0 1 9;gate 0 0 1;");
         for (int i = 0; i < 59; i++) {
             y.write(9);
