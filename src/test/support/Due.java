@@ -5,16 +5,26 @@ final class Due {
     static final int NONE = -1, UNKNOWN = -100000001, OUTSIDE = -100000002, NOT = -100000003, FULL = -100000004;
     private static int wrong = 0;
     private static int seen = 0;
+    private static String sentence = "";
 
     private Due() {
+    }
+
+    /** What the document says, ahead of what is asked for it: a promise's number and its words. */
+    static void says(String promise, String words) {
+        sentence = promise + " \"" + words + "\": ";
     }
 
     static void is(String call, long got, long want) {
         seen++;
         if (got != want) {
-            wrong++;
-            System.out.println(call + " answered " + got + ", due is " + want);
+            tellWrong(call + " answered " + got + ", due is " + want);
         }
+    }
+
+    private static void tellWrong(String what) {
+        wrong++;
+        System.out.println(sentence + what);
     }
 
     static void holds(String what, boolean so) {
@@ -27,16 +37,14 @@ final class Due {
         is(call, answer.getAsLong(), want);
         String after = all(x);
         if (!before.equals(after)) {
-            wrong++;
-            System.out.println(call + " was refused, but changed " + before + " to " + after);
+            tellWrong(call + " was refused, but changed " + before + " to " + after);
         }
     }
 
     static void same(String what, String got, String want) {
         seen++;
         if (!got.equals(want)) {
-            wrong++;
-            System.out.println(what + ": " + got + ", due is " + want);
+            tellWrong(what + ": " + got + ", due is " + want);
         }
     }
 
