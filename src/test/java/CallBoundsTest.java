@@ -116,7 +116,7 @@ public final class CallBoundsTest {
     }
 
     private static void gate() {
-        Due.says("8 gate", "what = 0 WIDTH, 1 TOLL, 2 FLOW of the latest HOUR (0 at first), 3, 4 GROUND DOWN, UP. UNKNOWN, OUTSIDE.");
+        Due.says("8 gate", "what = 0 WIDTH, 1 TOLL, 2 FLOW of the latest HOUR (0 at first), 3, 4 GROUND DOWN, UP (99999999 at most). UNKNOWN, OUTSIDE.");
         int[][] want = {{1, 4, 5, 27, 0}, {2, 7, -12, 16, 12}};
         for (int g = 0; g < 2; g++) {
             int k = g;
@@ -332,8 +332,23 @@ public final class CallBoundsTest {
         Due.is("LOGS", x.told(4), 0);
         Due.is("the SET in the pond", x.node(1, 4), 0);
         Due.is("clear of none", x.clear(), 0);
+        Due.is("a LOG anew", x.log(2, 3), 0);
+        int[] want = {2, 3, 2, 0, 0, 0, 0};
+        for (int what = 0; what <= 6; what++) {
+            Due.is("has nothing of the old one " + what, x.wood(0, what), want[what]);
+        }
         x.goBack(0);
         Due.is("an image holds them still", x.clear(), 2);
+        TurnedRiver turned = Due.of("lake 0 1 9;tide 0,9;gate 0 1 1;");
+        turned.log(0, 9);
+        turned.go(3);
+        Due.is("a LOG that turned", turned.wood(0, 4), 2);
+        Due.is("and came home", turned.wood(0, 5), 1);
+        Due.is("clear of one", turned.clear(), 1);
+        turned.log(0, 9);
+        for (int what = 3; what <= 6; what++) {
+            Due.is("nothing of it is left " + what, turned.wood(0, what), 0);
+        }
     }
 
     private static void tried() {
@@ -358,6 +373,9 @@ public final class CallBoundsTest {
         for (int what : beside(0, 2)) {
             Bounds.refuses(BUSY, "tried of " + what, OUTSIDE, x -> x.tried(1, what, 0));
             Bounds.refuses(BUSY, "tried of " + what, OUTSIDE, x -> x.tried(200, what, 1));
+            for (int k : NO_NODE) {
+                Bounds.refuses(BUSY, "UNKNOWN ahead of OUTSIDE, tried of " + what + " " + k, UNKNOWN, x -> x.tried(1, what, k));
+            }
         }
         TurnedRiver x = Due.of("lake 0 99 9999;gate 0 0 1;tide 0,1,2,3,4,5,6,7,8,9;");
         Due.plan(x, "at 199 0 1;at 200 0 2;");

@@ -410,6 +410,11 @@ public final class HourBoundsTest {
         }
         Due.plan(x, "at 0 0 0;at 3 1 1;at 4 1 0;");
         Due.is("gate 0 is shut from HOUR 0 on", x.boat(0, 2, 0, NONE), NONE);
+        Due.plan(x, "at 0 0 0;at 0 1 1;at 1 1 0;at 3 0 1;");
+        int[] upEarly = {2, 0, 0, 2};
+        for (int i = 0; i < 4; i++) {
+            Due.is("up, gate 1 shuts in HOUR 1, HOUR " + i, x.boat(2, 0, 0, i), upEarly[i]);
+        }
     }
 
     private static void sentHours() {
@@ -669,7 +674,7 @@ public final class HourBoundsTest {
     }
 
     private static void imagesDoNotKeep() {
-        Due.says("Terms 3", "IMAGES 0, 1 keep ..: not THE PLAN, THE BOOK, THE TEXT, the FAULT");
+        Due.says("Terms 3", "IMAGES 0, 1 keep WATER, WIDTHS, THE HOUR, FLOW of the latest HOUR, GROUND, LOGS, THE SEED.");
         TurnedRiver x = Due.of(Bounds.STILL);
         x.keep(0);
         Due.plan(x, "at 1 0 7;");

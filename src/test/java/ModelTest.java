@@ -2,8 +2,9 @@ import java.util.Random;
 
 /** Long runs of calls by draws (the same ones each time): the class against the document told a second time. */
 public final class ModelTest {
-    private static final int RUNS = 60;
-    private static final int CALLS = 400;
+    private static final int RUNS = 240;
+    /** An object is used for at most 512 calls; what is drawn once asks no more than 130 of them. */
+    private static final int CALLS = 512 - 130;
     private static final String[] NAMES = {
         "feed", "river", "plan", "fault", "told", "node", "gate", "go", "width", "pour", "showers", "log", "wood", "clear",
         "tried", "slack", "boat", "sent", "ring", "drained", "nearest", "stopped", "write", "tear", "judge", "seed", "keep", "goBack"};
@@ -12,6 +13,7 @@ public final class ModelTest {
     private final TurnedRiver x = new TurnedRiver();
     private final RiverModel m = new RiverModel();
     private final int run;
+    private int calls;
 
     private ModelTest(int run) {
         this.run = run;
@@ -22,9 +24,10 @@ public final class ModelTest {
         for (int run = 0; run < RUNS; run++) {
             ModelTest t = new ModelTest(run);
             t.tell(t.riverText(), true);
-            for (int i = 0; i < CALLS; i++) {
+            for (int i = 0; i < CALLS && t.calls < CALLS; i++) {
                 t.call();
             }
+            Due.holds("no more than 512 calls", t.calls <= 512);
         }
         for (int run = 0; run < 3000; run++) {
             ModelTest t = new ModelTest(-run - 1);
@@ -38,7 +41,7 @@ public final class ModelTest {
         Due.end();
     }
 
-    /** As much water as 500 calls can bring: the sea stands high all day and every gate is wide. */
+    /** As much water as the calls can bring: the sea stands high all day and every gate is wide. */
     private void flood() {
         StringBuilder s = new StringBuilder("lake 0 1 0;");
         for (int k = 0; k < run % 8; k++) {
@@ -50,7 +53,7 @@ public final class ModelTest {
             due("width", x.width(k, 9), m.width(k, 9));
         }
         due("log", x.log(0, 999), m.log(0, 999));
-        for (int i = 0; i < 480; i++) {
+        for (int i = 0; i < 290; i++) {
             due("go", x.go(200), m.go(200));
         }
         for (int k = 0; k < m.told(0); k++) {
@@ -68,9 +71,11 @@ public final class ModelTest {
             due("told " + what, x.told(what), m.told(what));
             due("wood " + what, x.wood(0, what), m.wood(0, what));
         }
+        Due.holds("no more than 512 calls", calls <= 512);
     }
 
     private void due(String call, int got, int want) {
+        calls++;
         Due.is("run " + run + ": " + call, got, want);
     }
 
@@ -173,7 +178,7 @@ public final class ModelTest {
 
     private void tell(String text, boolean river) {
         for (int i = 0; i < text.length(); ) {
-            int n = Math.min(1 + random.nextInt(8), text.length() - i);
+            int n = Math.min(4 + random.nextInt(5), text.length() - i);
             long bytes = random.nextLong();
             for (int j = 0; j < n; j++) {
                 bytes = bytes << 8 | text.charAt(i + j) & 255;
@@ -208,7 +213,7 @@ public final class ModelTest {
             case "river": if (random.nextInt(6) == 0) { tell(random.nextInt(3) == 0 ? spoilt(riverText()) : riverText(), true); } break;
             case "plan": {
                 if (m.told(2) > 0) { due("river()", x.river(), m.river()); }
-                if (m.told(0) == 0) { tell(riverText(), true); }
+                if (m.told(0) == 0) { tell(riverText(), true); break; }
                 tell(random.nextInt(3) == 0 ? spoilt(planText()) : planText(), false);
                 break;
             }
@@ -221,7 +226,7 @@ public final class ModelTest {
             case "pour": { int v = near(9999); due(name + k + "," + v, x.pour(k, v), m.pour(k, v)); break; }
             case "showers": { int n = near(100); int d = near(99); due(name + n + "," + d, x.showers(n, d), m.showers(n, d)); break; }
             case "log": { int w = weight(); due(name + k + "," + w, x.log(k, w), m.log(k, w)); break; }
-            case "wood": for (int l = -1; l <= 12; l++) { for (int w = -1; w <= 7; w++) { due(name + l + "," + w, x.wood(l, w), m.wood(l, w)); } } break;
+            case "wood": for (int w = -1, l = near(12); w <= 7; w++) { due(name + l + "," + w, x.wood(l, w), m.wood(l, w)); } break;
             case "clear": if (random.nextInt(4) == 0) { due(name, x.clear(), m.clear()); } break;
             case "tried": { int w = near(2); due(name + hours + "," + w + "," + k, x.tried(hours, w, k), m.tried(hours, w, k)); break; }
             case "slack": { int w = near(1); due(name + g + "," + w, x.slack(g, w), m.slack(g, w)); break; }

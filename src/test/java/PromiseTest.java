@@ -942,12 +942,13 @@ public final class PromiseTest {
 
     // Promises 28 and 29
     private static void keepAndGoBack() {
-        TurnedRiver x = Due.of(SMALL);
-        Due.refused(x, "not kept", NOT, () -> x.goBack(1));
+        TurnedRiver none = Due.of(SMALL);
+        Due.refused(none, "not kept", NOT, () -> none.goBack(1));
         for (int i : new int[] {-1, 2, Integer.MIN_VALUE, Integer.MAX_VALUE}) {
-            Due.refused(x, "keep " + i, UNKNOWN, () -> x.keep(i));
-            Due.refused(x, "goBack " + i, UNKNOWN, () -> x.goBack(i));
+            Due.refused(none, "keep " + i, UNKNOWN, () -> none.keep(i));
+            Due.refused(none, "goBack " + i, UNKNOWN, () -> none.goBack(i));
         }
+        TurnedRiver x = Due.of(SMALL);
         x.log(2, 12);
         x.seed(9);
         x.go(3);

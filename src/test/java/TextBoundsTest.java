@@ -16,6 +16,7 @@ public final class TextBoundsTest {
         textOfFourHundred();
         riverOfBlanks();
         riverBecomes();
+        riverAnew();
         lakeFirst();
         basinBounds("lake ", "");
         basinBounds(LAKE + "pond ", LAKE);
@@ -26,6 +27,7 @@ public final class TextBoundsTest {
         onceEach();
         gateBehindPonds();
         numbersAndWords();
+        everyLetter();
         everyByte();
         endOfTheText();
         leastOfFaults();
@@ -203,11 +205,37 @@ public final class TextBoundsTest {
         Due.is("tide of old is gone", y.tried(1, 2, 1), 0);
     }
 
+    /** Nothing of an earlier river, nor of a text with a FAULT, is left in a later one. */
+    private static void riverAnew() {
+        Due.says("3 river", "THE TEXT (it is empty then) becomes THE RIVER");
+        StringBuilder full = new StringBuilder("lake 9 9 9;rain 99,99;tide 9,9;");
+        for (int i = 0; i < 8; i++) {
+            full.append("pond 8 8 8;");
+        }
+        full.append("gate 0 0 7;gate 1 0 7;");
+        TurnedRiver x = new TurnedRiver();
+        for (int i = 0; i < 3; i++) {
+            Due.is("the most NODES", Due.river(x, full.toString()), 10);
+            Due.is("a FAULT behind all of it", Due.river(x, full + "x"), -11);
+            Due.is("the least NODES", Due.river(x, "lake 5 1 6;"), 2);
+            int[][] want = {{5, 1, 6, 11, 0}, {0, 0, 0, 0, 0}};
+            for (int what = 0; what <= 4; what++) {
+                Due.is("the lake " + what, x.node(0, what), want[0][what]);
+                Due.is("the sea " + what, x.node(1, what), want[1][what]);
+            }
+            Due.is("WIDTH untold", x.gate(0, 0), 5);
+            Due.is("TOLL untold", x.gate(0, 1), 1);
+            Due.is("tide untold", x.tried(1, 2, 1), 0);
+            Due.is("rain untold", x.tried(2, 0, 0), 0);
+            Due.is("WATER of all", x.told(6), 6);
+        }
+    }
+
     private static void lakeFirst() {
         Due.says("Terms 1", "clauses: 'lake' F A V ';' first");
         good(LAKE, 2);
         good(LAKE + "pond 0 1 0;", 3);
-        Due.says("Terms 1", "1 it cannot stand there (.. anything ahead of the 'lake': at its first letter");
+        Due.says("Terms 1", "1 it cannot stand there .. anything ahead of the 'lake': at its first letter");
         for (String word : new String[] {"pond", "rain", "tide", "gate", "at", "a", "z", "lak", "lakes", "lakelake"}) {
             bad(word + " 0 1 0;" + LAKE, 1, 0);
             bad("  " + word, 1, 2);
@@ -444,6 +472,37 @@ public final class TextBoundsTest {
         bad(LAKE + "gate00 1;", 1, 19);
     }
 
+    /** A word with a letter changed, less or more is another word. */
+    private static void everyLetter() {
+        Due.says("Terms 1", "1 it cannot stand there (a word that cannot .. at its first letter");
+        String[] words = {"lake", "pond", "rain", "tide", "gate", "at"};
+        String[] clauses = {"0 1 0;", "0 1 0;", "1;", "1;", "0 1 1;", "0 0 1;"};
+        for (int i = 0; i < words.length; i++) {
+            String word = words[i];
+            String ahead = i == 0 || i == 5 ? "" : LAKE;
+            for (int at = 0; at < word.length(); at++) {
+                String before = word.substring(0, at);
+                String after = word.substring(at + 1);
+                for (char c : new char[] {'a', 'q', 'z'}) {
+                    cannotStand(ahead, before + c + word.substring(at), clauses[i], i == 5);
+                    if (word.charAt(at) != c) {
+                        cannotStand(ahead, before + c + after, clauses[i], i == 5);
+                    }
+                }
+                cannotStand(ahead, before + after, clauses[i], i == 5);
+            }
+            cannotStand(ahead, word + "s", clauses[i], i == 5);
+        }
+    }
+
+    private static void cannotStand(String ahead, String word, String clause, boolean plan) {
+        TurnedRiver x = Due.of(Bounds.STILL);
+        String text = ahead + word + " " + clause;
+        Due.feed(x, text);
+        Due.is(text, plan ? x.plan() : x.river(), -11);
+        Due.is("fault of " + text, x.fault(), ahead.length());
+    }
+
     /** The bytes beside a .. z, 0 .. 9 and the blank among them. */
     private static void everyByte() {
         Due.says("Terms 1", "words are letters a .. z side by side; blanks (32)");
@@ -558,6 +617,15 @@ public final class TextBoundsTest {
         Due.is("the thirtieth is heard", x.gate(0, 0), 7);
         Due.is("plan of nothing", x.plan(), 0);
         Due.is("no clauses", x.told(1), 0);
+        TurnedRiver y = goodPlan("at 1 0 1;at 1 1 1;at 2 0 3;", 3);
+        for (int i = 0; i < 3; i++) {
+            Due.is("a plan anew", Due.plan(y, "at 1 0 7;"), 1);
+            Due.is("a FAULT behind a clause", Due.plan(y, "at 1 1 5;at 2 0 5;x"), -11);
+            Due.is("clauses", y.told(1), 1);
+        }
+        y.go(3);
+        Due.is("by the plan anew", y.gate(0, 0), 7);
+        Due.is("no other is heard", y.gate(1, 0), 0);
         Due.says("Terms 1", "3 .. a 31st 'at' (at its first letter)");
         badPlan("at 0 0 1;".repeat(31), 3, 270);
         badPlan("at 0 0 1;".repeat(30) + "  at", 3, 272);
